@@ -374,9 +374,7 @@ public final class MovingGuest {
         int block = v >> 8 & 7;
         switch (v & 15) {
             case 6:
-                int address = machine.address(v);
-                machine.memory[address] = machine.registers[a];
-                course.markChanged(address / PAGE_WORDS);
+                storeWord(machine, machine.address(v), machine.registers[a]);
                 break;
             case 11:
                 machine.request(block, machine.registers[a]);
@@ -389,6 +387,11 @@ public final class MovingGuest {
                 machine.compute(v);
                 break;
         }
+    }
+
+    private void storeWord(Machine machine, int address, int word) {
+        machine.memory[address] = word;
+        course.markChanged(address / PAGE_WORDS);
     }
 
     private void sendPage(int page) {
@@ -414,10 +417,12 @@ public final class MovingGuest {
                     course.markSeen(piece.page, piece.serial);
                 }
                 break;
-            default:
+            case TAKEN:
                 if (source().holds && target().ready) {
                     handOver();
                 }
+                break;
+            default:
                 break;
         }
     }
@@ -619,7 +624,6 @@ public final class MovingGuest {
             machine.clear();
             Arrays.fill(serials, 0);
             takesPart = true;
-            ready = false;
         }
 
         void leaveMove() {

@@ -7,6 +7,7 @@ final class MoveTest {
         begins();
         numbersGoOn();
         beginsAnew();
+        stopIsForgotten();
         goesBothWays();
         Check.end();
     }
@@ -62,6 +63,18 @@ final class MoveTest {
         Check.due("serial 1 first", x.piece(0, 3), 1);
         Check.due("deliver", x.deliver(0), 1);
         Check.due("a serial of 1 is greater than that of a new target", x.memory(1, 1), 20);
+    }
+
+    private static void stopIsForgotten() {
+        MovingGuest x = Guests.on0(Code.jump(0));
+        Guests.makeReady(x);
+        Check.due("stopped", x.told(4), 1);
+        Check.due("abort", x.abort(), true);
+        Check.due("move", x.move(), 2);
+        Guests.told("anew", x, 0, 2, 2, 0, 0, 8, 1, 0, 0);
+        Check.due("runs in the new move", x.run(0, 3), 3);
+        Guests.pages(x, 1);
+        Check.due("still not stopped", x.told(4), 0);
     }
 
     private static void goesBothWays() {

@@ -89,7 +89,8 @@ final class ReadersTest {
         Check.due("move", x.move(), 1);
         for (int page = 0; page < 8; page++) {
             Guests.pages(x, 1);
-            for (int i = 0; i < 64; i++) {
+            // Few words of each page, as an object is good for 512 calls.
+            for (int i = 0; i < 64; i += i % 8 == 0 ? 7 : 1) {
                 Check.due("memory(1, " + i + ")", x.memory(1, i), i / 8 <= page ? 1000 + i : 0);
             }
         }
