@@ -4,8 +4,12 @@ final class Guests {
     }
 
     static void image(MovingGuest x, int... words) {
+        imageAt(x, 0, words);
+    }
+
+    static void imageAt(MovingGuest x, int from, int... words) {
         for (int i = 0; i < words.length; i++) {
-            Check.due("image " + i, x.image(i, words[i]), true);
+            Check.due("image " + (from + i), x.image(from + i, words[i]), true);
         }
     }
 
@@ -15,6 +19,39 @@ final class Guests {
         image(x, words);
         Check.due("create(0)", x.create(0), 1);
         return x;
+    }
+
+    /** As on0, with two more words at 40 and 41, where a program finds ints that no instruction holds. */
+    static MovingGuest on0With(int word40, int word41, int... words) {
+        MovingGuest x = new MovingGuest();
+        image(x, words);
+        imageAt(x, 40, word40, word41);
+        Check.due("create(0)", x.create(0), 1);
+        return x;
+    }
+
+    static void runs(MovingGuest x, int host, int n) {
+        Check.due("run(" + host + ", " + n + ")", x.run(host, n), n);
+    }
+
+    /** What guest answers from what = 0 on. */
+    static void guest(String where, MovingGuest x, int host, int... due) {
+        for (int what = 0; what < due.length; what++) {
+            Check.due(where + " guest(" + host + ", " + what + ")", x.guest(host, what), due[what]);
+        }
+    }
+
+    /** Steps that send a page each; the pieces stay on the link. */
+    static void sends(MovingGuest x, int n) {
+        for (int i = 0; i < n; i++) {
+            Check.due("step for page", x.step(), 1);
+        }
+    }
+
+    static void loses(MovingGuest x, int n) {
+        for (int i = 0; i < n; i++) {
+            Check.due("lose", x.lose(0) > 0, true);
+        }
     }
 
     /** Steps that send a page each, which arrives and is seen. */
