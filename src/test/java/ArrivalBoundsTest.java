@@ -10,6 +10,7 @@ final class ArrivalBoundsTest {
         pageForAHostThatIsBack();
         pageOfAnEndedMove();
         pageOfAnotherMove();
+        piecesOfTheMoveThere();
         pageForAReadyTarget();
         seenOfThisSerial();
         seenOfAnotherSerial();
@@ -157,6 +158,34 @@ final class ArrivalBoundsTest {
         Check.due("word", x.memory(1, 0), Code.set(0, 9));
     }
 
+    /** PAGE, SEEN, STATE and TAKEN of the move from 0 to 1 come late, in the one from 1 to 0. */
+    private static void piecesOfTheMoveThere() {
+        Check.sentence("what does not fit here has no effect: pieces of the move there in the move back");
+        MovingGuest x = moving();
+        Guests.sends(x, 1);
+        Check.due("twice", x.twice(0), 2);
+        Check.due("deliver PAGE", x.deliver(1), 1);
+        Check.due("twice", x.twice(1), 3);
+        Check.due("deliver SEEN", x.deliver(2), 3);
+        Guests.pages(x, 7);
+        Check.due("step", x.step(), 2);
+        Check.due("twice", x.twice(2), 4);
+        Check.due("deliver STATE", x.deliver(3), 2);
+        Check.due("twice", x.twice(3), 5);
+        Check.due("deliver TAKEN", x.deliver(4), 4);
+        Check.due("there", x.holder(), 1);
+        Check.due("move back", x.move(), 2);
+        int[] kinds = {1, 3, 2, 4};
+        for (int kind : kinds) {
+            Check.due("deliver", x.deliver(0), kind);
+            Guests.told("after " + kind, x, 1, 2, 2, 1, 0, 8);
+            Check.due("no word came", x.memory(0, 0), 0);
+            Check.due("not ready", x.told(7), 0);
+        }
+        Check.due("pieces", x.told(6), 0);
+        Check.due("holder", x.holder(), 1);
+    }
+
     private static void pageForAReadyTarget() {
         Check.sentence("PAGE: a SEEN comes to the link in any case (from a target that is ready too)");
         MovingGuest x = moving();
@@ -171,6 +200,7 @@ final class ArrivalBoundsTest {
         Check.due("twice", x.twice(0), 3);
         Check.due("deliver PAGE", x.deliver(0), 1);
         Check.due("SEEN", x.piece(2, 0), 3);
+        hasNoEffect(x, 2, 3);
         Check.due("crash of the source", x.crash(0), true);
         Check.due("deliver PAGE", x.deliver(1), 1);
         Check.due("SEEN when the source holds none", x.piece(2, 0), 3);

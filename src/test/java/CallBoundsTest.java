@@ -16,6 +16,8 @@ final class CallBoundsTest {
         createBesideAGuest();
         createWhileAMoveGoesOn();
         createRaisesTheNumber();
+        createAllElse0OrEmpty();
+        createWithTheImage();
         runWithoutHost();
         runCount();
         runUpToN();
@@ -29,6 +31,7 @@ final class CallBoundsTest {
         moveWithoutGuest();
         moveWithoutTarget();
         moveNumbers();
+        theLastOf512Calls();
         Check.end();
     }
 
@@ -148,6 +151,48 @@ final class CallBoundsTest {
             Guests.told("crashed", x, host, n);
             Check.due("back", x.back(host), true);
         }
+    }
+
+    /** On the host on which a guest had something in each part, and another one its timer on. */
+    private static void createAllElse0OrEmpty() {
+        Check.sentence("create: all else 0 or empty");
+        MovingGuest x = Guests.on0(Code.set(0, 1), Code.set(1, 2), Code.set(2, 3), Code.set(3, 2), Code.timer(3),
+                Code.write(0), Code.put(1, 4));
+        Check.due("input", x.input(0, 8), 1);
+        Guests.runs(x, 0, 7);
+        Guests.guest("the first guest", x, 0, 1, 2, 3, 7, 56, 0, 7, 1, 1, 1);
+        Check.due("crash", x.crash(0), true);
+        Check.due("back", x.back(0), true);
+        Guests.imageAt(x, 0, Code.read(0), Code.put(0, 1), Code.write(0));
+        Check.due("create", x.create(0), 2);
+        Guests.guest("the second guest", x, 0, 0, 0, 0, 0, 0, 0, 0, 0, 0, 0);
+        Check.due("output", x.output(0, 0), 0);
+        Check.due("no order", x.disk(0), NO);
+        Guests.runs(x, 0, 2);
+        Guests.guest("no input, no timer, no request", x, 0, -1, 0, 0, 0, 2, 0, 2, 0, 0, 1);
+        Check.due("crash, when the timer is on", x.crash(0), true);
+        Check.due("back", x.back(0), true);
+        Guests.imageAt(x, 0, Code.set(3, 9), Code.timer(3));
+        Check.due("create", x.create(0), 3);
+        Guests.runs(x, 0, 2);
+        Check.due("timer", x.guest(0, 5), 9);
+        Check.due("crash", x.crash(0), true);
+        Check.due("back", x.back(0), true);
+        Check.due("create", x.create(0), 4);
+        Guests.guest("the last guest", x, 0, 0, 0, 0, 0, 0, 0, 0, 0, 0, 0);
+    }
+
+    private static void createWithTheImage() {
+        Check.sentence("create: a guest with the image as its memory (whatever an earlier one stored)");
+        MovingGuest x = Guests.on0(Code.store(0, 0, 0), Code.set(1, 5), Code.store(1, 0, 63));
+        Guests.runs(x, 0, 3);
+        Check.due("word 0", x.memory(0, 0), 0);
+        Check.due("word 63", x.memory(0, 63), 5);
+        Check.due("crash", x.crash(0), true);
+        Check.due("back", x.back(0), true);
+        Check.due("create", x.create(0), 2);
+        Check.due("word 0", x.memory(0, 0), Code.store(0, 0, 0));
+        Check.due("word 63", x.memory(0, 63), 0);
     }
 
     private static void runWithoutHost() {
@@ -357,5 +402,27 @@ final class CallBoundsTest {
         Guests.wholeMove(x);
         Guests.wholeMove(x);
         Check.due("after hand-overs", x.move(), 6);
+    }
+
+    private static void theLastOf512Calls() {
+        Check.sentence("at most 512 calls after it has been made");
+        MovingGuest x = Guests.on0(Code.jump(0));
+        for (int i = 0; i < 509; i++) {
+            Guests.runs(x, 0, 100);
+        }
+        Check.due("retired", x.guest(0, 6), 50900);
+        x = new MovingGuest();
+        Check.due("create", x.create(1), 1);
+        for (int i = 1; i <= 255; i++) {
+            Check.due("move", x.move(), i);
+            Check.due("abort", x.abort(), true);
+        }
+        Check.due("the witness's number", x.told(1), 256);
+        x = Guests.on0();
+        Check.due("move", x.move(), 1);
+        for (int i = 0; i < 509; i++) {
+            Check.due("step in vain", x.step(), i % 9 == 8 ? 3 : 1);
+        }
+        Check.due("steps", x.told(8), 509);
     }
 }

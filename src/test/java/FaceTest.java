@@ -24,7 +24,29 @@ final class FaceTest {
         Check.due("constructors", constructors.length, 1);
         Check.due("its parameters", constructors[0].getParameterCount(), 0);
         Check.due("its modifiers", constructors[0].getModifiers(), Modifier.PUBLIC);
+        namesAreNotUsedAgain();
+        classesInside();
         Check.end();
+    }
+
+    private static void namesAreNotUsedAgain() {
+        Set<String> names = new TreeSet<>();
+        for (String method : METHODS) {
+            names.add(method.substring(method.indexOf(' ') + 1, method.indexOf('[')));
+        }
+        Check.due("names", names.size(), METHODS.length);
+        for (Method method : MovingGuest.class.getDeclaredMethods()) {
+            boolean isPrivate = Modifier.isPrivate(method.getModifiers());
+            Check.due(method + " has the name of a public one", isPrivate && names.contains(method.getName()), false);
+        }
+    }
+
+    private static void classesInside() {
+        for (Class<?> inside : MovingGuest.class.getDeclaredClasses()) {
+            int modifiers = inside.getModifiers();
+            Check.due(inside + " is static", Modifier.isStatic(modifiers), true);
+            Check.due(inside + " is hidden", Modifier.isPublic(modifiers) || Modifier.isProtected(modifiers), false);
+        }
     }
 
     private static void same(String what, String[] due, Set<String> got) {

@@ -9,6 +9,7 @@ final class InstructionBoundsTest {
         putWaits();
         getWaits();
         othersDoNotWait();
+        putAndGetWithoutRequest();
         additionWraps();
         subtractionWraps();
         multiplicationWraps();
@@ -84,14 +85,47 @@ final class InstructionBoundsTest {
 
     private static void othersDoNotWait() {
         Check.sentence("unless it halts or waits, the instruction is retired");
-        int[] ops = {1, 2, 3, 4, 5, 6, 7, 8, 9, 10, 13};
-        for (int op : ops) {
-            MovingGuest x = beforeWord8(Code.word(op, 2, 3, 9, 1));
-            Check.due("run of op " + op, x.run(0, 1), 1);
-            Check.due("retired", x.guest(0, 6), 9);
-            Check.due("counter", x.guest(0, 4), 9);
-            Check.due("the request stays", x.guest(0, 9), 1);
+        does(Code.word(1, 2, 3, 20, 5), 1, 2, 5, 50, 9, 46, 9, 1, 1, 1);
+        does(Code.word(2, 2, 3, 20, 5), 1, 2, 53, 50, 9, 46, 9, 1, 1, 1);
+        does(Code.word(3, 2, 3, 20, 5), 1, 2, -47, 50, 9, 46, 9, 1, 1, 1);
+        does(Code.word(4, 2, 3, 20, 5), 1, 2, 150, 50, 9, 46, 9, 1, 1, 1);
+        does(Code.word(5, 2, 3, 20, 5), 1, 2, Code.put(2, 4), 50, 9, 46, 9, 1, 1, 1);
+        does(Code.word(6, 2, 3, 20, 5), 1, 2, 3, 50, 9, 46, 9, 1, 1, 1);
+        does(Code.word(7, 2, 3, 20, 5), 1, 2, 3, 50, 20, 46, 9, 1, 1, 1);
+        does(Code.word(8, 2, 3, 20, 5), 1, 2, 3, 50, 9, 46, 9, 1, 1, 1);
+        does(Code.word(9, 2, 3, 20, 5), 1, 2, 3, 50, 9, 46, 9, 1, 2, 1);
+        does(Code.word(10, 2, 3, 20, 5), 1, 2, 7, 50, 9, 46, 9, 0, 1, 1);
+        does(Code.word(13, 2, 3, 20, 5), 1, 2, 3, 50, 9, 3, 9, 1, 1, 1);
+    }
+
+    /** Each part of the guest, its memory and the disk after the one instruction, which has a request before. */
+    private static void does(int word8, int... due) {
+        MovingGuest x = beforeWord8(word8);
+        Check.due("run of " + word8, x.run(0, 1), 1);
+        Guests.guest("after " + word8, x, 0, due);
+        Check.due("output 0", x.output(0, 0), 2);
+        Check.due("output 1", x.output(0, 1), due[8] == 2 ? 3 : 0);
+        for (int i : new int[] {0, 6, 8, 55}) {
+            int before = i == 0 ? Code.set(0, 1) : i == 6 ? Code.put(2, 4) : i == 8 ? word8 : 2;
+            Check.due("word " + i, x.memory(0, i), (word8 & 15) == 6 && i == 6 ? 3 : before);
         }
+        Check.due("the order of before", x.disk(0), 1);
+        Check.due("block 4", x.block(4), 3);
+    }
+
+    private static void putAndGetWithoutRequest() {
+        Check.sentence("11, 12: else it has the request; else R(a) is the disk's word");
+        MovingGuest x = beforeWord8(Code.put(1, 5));
+        Check.due("disk", x.disk(0), 1);
+        Guests.runs(x, 0, 1);
+        Guests.guest("11", x, 0, 1, 2, 3, 50, 9, 46, 9, 1, 1, 1);
+        Check.due("disk", x.disk(0), 1);
+        Check.due("block 5", x.block(5), 2);
+        x = beforeWord8(Code.get(1, 4));
+        Check.due("disk", x.disk(0), 1);
+        Guests.runs(x, 0, 1);
+        Guests.guest("12", x, 0, 1, 3, 3, 50, 9, 46, 9, 1, 1, 0);
+        Check.due("12 makes no order", x.disk(0), NO);
     }
 
     /** Register 0 after op with left in register 0 and right in register 1. */
@@ -161,8 +195,7 @@ final class InstructionBoundsTest {
         for (int value : values) {
             MovingGuest x = Guests.on0With(value, 0, Code.load(2, 0, 40), Code.jumpIfZero(2, 63));
             Guests.runs(x, 0, 2);
-            Check.due("the counter with " + value, x.guest(0, 4), value == 0 ? 63 : 2);
-            Check.due("retired", x.guest(0, 6), 2);
+            Guests.guest("with " + value, x, 0, 0, 0, value, 0, value == 0 ? 63 : 2, 0, 2, 0, 0, 0);
         }
     }
 
