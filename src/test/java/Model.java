@@ -422,4 +422,12 @@ final class Model {
         boolean is = host(host) && guests[host] != null && i >= 0 && i < guests[host].s.out.size();
         return is ? guests[host].s.out.get(i) : 0;
     }
+
+    int isUp(int host) {
+        return host(host) && up[host] ? 1 : 0;
+    }
+
+    int block(int i) {
+        return i >= 0 && i < 8 ? disk[i] : 0;
+    }
 }

@@ -1,69 +1,101 @@
+import java.util.ArrayList;
+import java.util.List;
 import java.util.Random;
 
 /**
- * Many runs of calls, drawn from fixed seeds, on the program and the model: all that can be read stays
- * the same. With the readings an object gets more than 512 calls; the program does not count them.
+ * Many runs of calls, drawn from fixed seeds, on the program and the model: every answer is the same,
+ * and so is all that can be read behind the last call. An object is good for 512 calls, too few for all
+ * readings at once, so new objects get the same run again, and each of them is asked for a part.
  */
 final class ModelTest {
-    private static final int RUNS = 3000;
-    private static final int CALLS = 500;
+    private static final int RUNS = 20000;
+    private static final int LIMIT = 512;
+    private static final int IMAGE = 64;
+    private static final int MOST_CALLS = 400;
+    private static final List<Call> READINGS = Call.readings();
 
+    private static int handOvers = 0;
+    private static int takeOvers = 0;
+    private static int ordersTooOld = 0;
+    private static int abortsWhenReady = 0;
+
+    private final int seed;
     private final Random random;
-    private final MovingGuest x = new MovingGuest();
     private final Model model = new Model();
-    private String call = "";
-    private int got;
-    private int due;
+    private final List<Call> calls = new ArrayList<>();
+    private final List<Integer> due = new ArrayList<>();
 
-    private ModelTest(long seed) {
+    private ModelTest(int seed) {
+        this.seed = seed;
         random = new Random(seed);
     }
 
     public static void main(String[] args) {
         int wrong = 0;
-        int[] ends = new int[4];
         for (int seed = 0; seed < RUNS && wrong < 5; seed++) {
-            wrong += new ModelTest(seed).run(seed, ends) ? 0 : 1;
+            ModelTest run = new ModelTest(seed);
+            run.draw();
+            wrong += run.isAsInTheModel() ? 0 : 1;
         }
+        Check.due("runs not as in the model", wrong, 0);
         // Runs that never come that far would show nothing.
-        Check.due("runs as in the model", wrong, 0);
-        Check.due("some hand-overs", ends[0] > RUNS / 10, true);
-        Check.due("some take-overs", ends[1] > RUNS / 100, true);
-        Check.due("some orders too old", ends[2] > RUNS / 100, true);
-        Check.due("some aborts when ready", ends[3] > RUNS / 100, true);
+        Check.due("some hand-overs", handOvers > RUNS / 10, true);
+        Check.due("some take-overs", takeOvers > RUNS / 100, true);
+        Check.due("some orders too old", ordersTooOld > RUNS / 100, true);
+        Check.due("some aborts when ready", abortsWhenReady > RUNS / 100, true);
         Check.end();
     }
 
-    private boolean run(int seed, int[] ends) {
-        drawImage();
-        for (int i = 0; i < CALLS; i++) {
-            boolean wasReady = model.ready();
-            int holder = model.holder();
-            drawCall();
-            if (got != due) {
-                System.out.println("run " + seed + ", call " + i + ": " + call
-                        + " answered " + got + ", due is " + due);
-                return false;
+    private boolean isAsInTheModel() {
+        int part = LIMIT - calls.size();
+        for (int from = 0; from < READINGS.size(); from += part) {
+            MovingGuest x = new MovingGuest();
+            for (int i = 0; i < calls.size(); i++) {
+                if (!answers(x, calls.get(i), due.get(i))) {
+                    System.out.println("  as call " + (i + 1) + " of run " + seed);
+                    return false;
+                }
             }
-            String differs = firstDifference();
-            if (!differs.isEmpty()) {
-                System.out.println("run " + seed + ", call " + i + ": after " + call + " differs " + differs);
-                return false;
+            for (int i = from; i < from + part && i < READINGS.size(); i++) {
+                if (!answers(x, READINGS.get(i), READINGS.get(i).on(model))) {
+                    System.out.println("  behind the " + calls.size() + " calls of run " + seed);
+                    return false;
+                }
             }
-            ends[0] += holder >= 0 && model.holder() == 1 - holder ? 1 : 0;
-            ends[1] += call.equals("takeOver") && due == 1 ? 1 : 0;
-            ends[2] += call.equals("disk") && due == 0 ? 1 : 0;
-            ends[3] += call.equals("abort") && due == 1 && wasReady ? 1 : 0;
         }
         return true;
     }
 
-    private void drawImage() {
-        for (int i = 0; i < 64; i++) {
-            int w = drawWord();
-            x.image(i, w);
-            model.image(i, w);
+    private static boolean answers(MovingGuest x, Call call, int wanted) {
+        int got = call.on(x);
+        if (got != wanted) {
+            System.out.println(call + " answered " + got + ", due is " + wanted);
         }
+        return got == wanted;
+    }
+
+    private void draw() {
+        for (int i = 0; i < IMAGE; i++) {
+            take(new Call("image", i, drawWord()));
+        }
+        int end = IMAGE + 1 + random.nextInt(MOST_CALLS - IMAGE);
+        while (calls.size() < end) {
+            boolean wasReady = model.ready();
+            int holder = model.holder();
+            Call call = drawCall();
+            int answer = take(call);
+            handOvers += holder >= 0 && model.holder() == 1 - holder ? 1 : 0;
+            takeOvers += call.name().equals("takeOver") && answer == 1 ? 1 : 0;
+            ordersTooOld += call.name().equals("disk") && answer == 0 ? 1 : 0;
+            abortsWhenReady += call.name().equals("abort") && answer == 1 && wasReady ? 1 : 0;
+        }
+    }
+
+    private int take(Call call) {
+        int answer = call.on(model);
+        calls.add(call);
+        due.add(answer);
+        return answer;
     }
 
     private int drawWord() {
@@ -90,115 +122,62 @@ final class ModelTest {
         return drawn == 0 ? -1 : drawn == 1 ? size : drawn == 2 ? random.nextInt() : random.nextInt(size + 1);
     }
 
-    private void answer(String name, int answered, int wanted) {
-        call = name;
-        got = answered;
-        due = wanted;
-    }
-
-    private void answer(String name, boolean answered, int wanted) {
-        answer(name, answered ? 1 : 0, wanted);
-    }
-
-    private void drawCall() {
+    private Call drawCall() {
+        if (random.nextInt(20) == 0) {
+            return READINGS.get(random.nextInt(READINGS.size()));
+        }
+        if (random.nextInt(3) == 0) {
+            return drawNextOfMove();
+        }
         // A target is ready for few calls only, so what may become of it is drawn more often then.
         int drawn = model.ready() && random.nextInt(4) == 0 ? 955 + random.nextInt(45) : random.nextInt(1000);
+        return drawn < 480 ? drawGuestCall(drawn) : drawLinkOrHostCall(drawn);
+    }
+
+    /** What brings a guest and its move on: calls drawn blindly seldom get as far as a hand-over. */
+    private Call drawNextOfMove() {
+        if (model.course == null && model.holder() < 0) {
+            int host = random.nextInt(2);
+            return new Call(model.up[host] ? "create" : "back", host);
+        }
+        if (model.course == null) {
+            return model.up[1 - model.holder()] ? new Call("move") : new Call("back", 1 - model.holder());
+        }
+        return model.link.isEmpty() ? new Call("step") : new Call("deliver", random.nextInt(model.link.size()));
+    }
+
+    private Call drawGuestCall(int drawn) {
         if (drawn < 20) {
-            int i = random.nextInt(68) - 2;
-            int w = drawWord();
-            answer("image", x.image(i, w), model.image(i, w));
+            return new Call("image", random.nextInt(68) - 2, drawWord());
         } else if (drawn < 60) {
-            int host = drawHost();
-            answer("create", x.create(host), model.create(host));
+            return new Call("create", drawHost());
         } else if (drawn < 140) {
-            int host = drawHolder();
             int n = random.nextInt(10) == 0 ? random.nextInt(104) - 1 : 1 + random.nextInt(6);
-            answer("run", x.run(host, n), model.run(host, n));
+            return new Call("run", drawHolder(), n);
         } else if (drawn < 170) {
-            int host = drawHolder();
-            int w = random.nextInt();
-            answer("input", x.input(host, w), model.input(host, w));
+            return new Call("input", drawHolder(), random.nextInt());
         } else if (drawn < 200) {
-            int host = drawHost();
-            answer("disk", x.disk(host), model.disk(host));
+            return new Call("disk", drawHost());
         } else if (drawn < 240) {
-            answer("move", x.move(), model.move());
-        } else if (drawn < 480) {
-            answer("step", x.step(), model.step());
-        } else {
-            drawLinkOrHostCall(drawn);
+            return new Call("move");
         }
+        return new Call("step");
     }
 
-    private void drawLinkOrHostCall(int drawn) {
-        int k = drawPiece();
-        int host = drawHost();
+    private Call drawLinkOrHostCall(int drawn) {
         if (drawn < 920) {
-            answer("deliver", x.deliver(k), model.deliver(k));
+            return new Call("deliver", drawPiece());
         } else if (drawn < 935) {
-            answer("lose", x.lose(k), model.lose(k));
+            return new Call("lose", drawPiece());
         } else if (drawn < 955) {
-            answer("twice", x.twice(k), model.twice(k));
+            return new Call("twice", drawPiece());
         } else if (drawn < 959) {
-            answer("abort", x.abort(), model.abort());
+            return new Call("abort");
         } else if (drawn < 965) {
-            answer("crash", x.crash(host), model.crash(host));
+            return new Call("crash", drawHost());
         } else if (drawn < 985) {
-            answer("back", x.back(host), model.back(host));
-        } else {
-            answer("takeOver", x.takeOver(), model.takeOver());
+            return new Call("back", drawHost());
         }
-    }
-
-    private String firstDifference() {
-        if (x.holder() != model.holder()) {
-            return "holder";
-        }
-        for (int what = -1; what < 10; what++) {
-            if (x.told(what) != model.told(what)) {
-                return "told " + what;
-            }
-        }
-        for (int k = -1; k < 9; k++) {
-            for (int what = -1; what < 5; what++) {
-                if (x.piece(k, what) != model.piece(k, what)) {
-                    return "piece " + k + " " + what;
-                }
-            }
-        }
-        for (int i = -1; i < 9; i++) {
-            if (x.block(i) != (i >= 0 && i < 8 ? model.disk[i] : 0)) {
-                return "block " + i;
-            }
-        }
-        for (int host = -1; host < 3; host++) {
-            String differs = firstDifferenceOf(host);
-            if (!differs.isEmpty()) {
-                return differs + " of host " + host;
-            }
-        }
-        return "";
-    }
-
-    private String firstDifferenceOf(int host) {
-        if (x.isUp(host) != (Model.host(host) && model.up[host])) {
-            return "isUp";
-        }
-        for (int what = -1; what < 11; what++) {
-            if (x.guest(host, what) != model.guest(host, what)) {
-                return "guest " + what;
-            }
-        }
-        for (int i = -1; i < 65; i++) {
-            if (x.memory(host, i) != model.memory(host, i)) {
-                return "memory " + i;
-            }
-        }
-        for (int i = -1; i < 41; i++) {
-            if (x.output(host, i) != model.output(host, i)) {
-                return "output " + i;
-            }
-        }
-        return "";
+        return new Call("takeOver");
     }
 }
